@@ -73,8 +73,8 @@ public final class NotchSticks {
     private static final int WANTS_BREAK = 2;
 
     // Tokens: a number is itself, a keyword its number in WORDS behind FIRST_WORD, a sign its character behind SIGN.
-    private static final String WORDS = "kept broken large lost size age year okept obroken olarge olost oage"
-        + " lawful olawful purse or and not when may deal break ";
+    private static final String WORDS =
+        "kept broken large lost size age year okept obroken olarge olost oage lawful olawful purse or and not when may deal break ";
     private static final int FIRST_WORD = 10000;
     private static final int LAW_NAMES = 7;
     private static final int RULE_NAMES = 15;
@@ -707,36 +707,11 @@ public final class NotchSticks {
             return true;
         }
 
+        /** E, with the parts of each T put at once and a + or - put when the T behind it stands. */
         private boolean readSum() {
-            if (!readProduct()) {
-                return false;
-            }
+            int sign = 0;
+            int waiting = 0;
             for (int part = 0; part < tokens.length; part++) {
-                int sign = tokens[at];
-                if (sign != SIGN_PLUS && sign != SIGN_MINUS) {
-                    return true;
-                }
-                at++;
-                if (!readProduct()) {
-                    return false;
-                }
-                put(sign);
-            }
-            return false;
-        }
-
-        private boolean readProduct() {
-            if (!isUnit(tokens[at])) {
-                return false;
-            }
-            put(tokens[at]);
-            at++;
-            for (int part = 0; part < tokens.length; part++) {
-                int sign = tokens[at];
-                if (sign != SIGN_TIMES && sign != SIGN_PART) {
-                    return true;
-                }
-                at++;
                 int unit = tokens[at];
                 if (!isUnit(unit) || sign == SIGN_PART && unit >= FIRST_WORD) {
                     return false;
@@ -746,7 +721,20 @@ public final class NotchSticks {
                     return false;
                 }
                 put(unit);
-                put(sign);
+                if (sign == SIGN_TIMES || sign == SIGN_PART) {
+                    put(sign);
+                }
+                at++;
+                sign = tokens[at];
+                if (sign != SIGN_TIMES && sign != SIGN_PART) {
+                    if (waiting != 0) {
+                        put(waiting);
+                    }
+                    if (sign != SIGN_PLUS && sign != SIGN_MINUS) {
+                        return true;
+                    }
+                    waiting = sign;
+                }
                 at++;
             }
             return false;
@@ -875,13 +863,17 @@ public final class NotchSticks {
         }
 
         boolean isLawful(int who, int size) {
-            int[] one = folk[who];
+            tellOwn(folk[who], size);
+            return judge.isSo(texts[terms[LAW]], WORD_MAY);
+        }
+
+        /** Gives the judge what both laws and rules name, in the order of WORDS. */
+        private void tellOwn(int[] one, int size) {
             int[] values = judge.values;
             System.arraycopy(one, KEPT, values, 0, 4);
             values[4] = size;
             values[5] = one[AGE];
             values[6] = year;
-            return judge.isSo(texts[terms[LAW]], WORD_MAY);
         }
 
         /** The least size of which a break would be lawful for one, or NONE. */
@@ -905,11 +897,8 @@ public final class NotchSticks {
             if (one[RULE] >= NO_RULE) {
                 return WANTS_DEAL;
             }
+            tellOwn(one, size);
             int[] values = judge.values;
-            System.arraycopy(one, KEPT, values, 0, 4);
-            values[4] = size;
-            values[5] = one[AGE];
-            values[6] = year;
             System.arraycopy(other, KEPT, values, 7, 4);
             values[11] = other[AGE];
             values[12] = lawful ? 1 : 0;
@@ -1006,7 +995,10 @@ public final class NotchSticks {
             one[OUT] = Math.max(one[OUT] - 1, 0);
             one[AGE] = Math.min(one[AGE] + 1, MOST_AGE);
             if (terms[CUT] > 0 && one[AGE] == terms[CUT]) {
-                Arrays.fill(one, KEPT, LOST + 1, 0);
+                one[KEPT] = 0;
+                one[BROKEN] = 0;
+                one[LARGE] = 0;
+                one[LOST] = 0;
             }
         }
 
