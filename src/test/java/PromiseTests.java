@@ -264,6 +264,13 @@ public final class PromiseTests {
         faulty(0, "maywhen 1=1;", 1, 0);
         faulty(0, "May when 1=1;", 1, 0);
         faulty(0, "mayX when 1=1;", 1, 0);
+        faulty(0, "mayA when 1=1;", 1, 0);
+        faulty(0, "mayZ when 1=1;", 1, 0);
+        faulty(0, "may[ when 1=1;", 1, 3);
+        faulty(0, "may@ when 1=1;", 1, 3);
+        faulty(0, times(400, ";"), 1, 0);
+        faulty(0, "may when 1=" + times(194, "1+") + "1", 1, 400);
+        faulty(0, "may when 1=" + times(193, "1+") + "11;", 0, -1);
         faulty(0, "may when\t1=1;", 1, 8);
         faulty(0, "may when 1=1;\r", 1, 13);
         faulty(0, "may when 1=\u00e91;", 1, 11);
@@ -286,6 +293,7 @@ public final class PromiseTests {
         faulty(0, "may when size/ 000=1;", 2, 15);
         faulty(0, "may when size/00000=1;", 1, 14);
         faulty(0, "may when size/age=1;", 1, 14);
+        faulty(0, "may when size/kept=1;", 1, 14);
         faulty(0, "may when size/(1)=1;", 1, 14);
         faulty(0, "may when size*0=1;", 0, -1);
         faulty(0, "may when size/2/3*age/4=1;", 0, -1);
@@ -349,6 +357,7 @@ public final class PromiseTests {
         so("7/2*2=6", true);
         so("2*7/2=7", true);
         so("100/7/2=7", true);
+        so("7/1=7", true);
         so("0-7/2=0-3", true);
         so("broken-kept/2*2=0-4", true);
         so("9999*9999*9999<0", true);
@@ -431,6 +440,14 @@ public final class PromiseTests {
         due("11 by the law in force", x.would(2, 0, 12, 2), 1);
         x.stick(0, 6, 3);
         due("11 out is not asked", x.would(0, 1, 12, 0), 1);
+        String[] names = {"okept", "obroken", "olarge", "olost", "oage", "kept", "broken", "large", "lost", "age"};
+        int[] whats = {2, 3, 4, 5, 1, 2, 3, 4, 5, 1};
+        x.stick(0, 0, 3);
+        for (int i = 0; i < names.length; i++) {
+            x.stick(i < 5 ? 1 : 0, whats[i], 60 + i);
+            tell(x, 5, "break when " + names[i] + "=" + (60 + i) + ";");
+            due("11 " + names[i], x.would(0, 1, 1, 1), 1);
+        }
         due("11 the same", x.would(1, 1, 1, 0), -1);
         due("11 size 0", x.would(0, 1, 0, 0), -1);
         due("11 size 13", x.would(0, 1, 13, 0), -1);
@@ -528,14 +545,19 @@ public final class PromiseTests {
         x.set(5, 1000);
         due("12 always noticed", x.deal(0, 1, 2), 3);
         due("12 without a draw", x.state(0), 0);
+        x.stick(0, 6, 0);
+        x.set(5, 999);
+        x.deal(0, 1, 2);
+        due("12 a draw with 999", x.state(0), 1013904223);
+        x.set(5, 1000);
         // a is asked first: with STATE 0 the draws are 563 and then the next one's.
         int second = (1664525 * 1013904223 + 1013904223 >>> 8) % 1000;
         x.stick(0, 6, 0);
         x.stick(1, 0, 0);
         x.set(5, Math.max(563, second));
         x.deal(0, 1, 1);
-        due("12 a draws first", x.book(4, 4), 563 < Math.max(563, second) ? 2 : 3);
-        due("12 b draws then", x.book(4, 5), second < Math.max(563, second) ? 2 : 3);
+        due("12 a draws first", x.book(5, 4), 563 < Math.max(563, second) ? 2 : 3);
+        due("12 b draws then", x.book(5, 5), second < Math.max(563, second) ? 2 : 3);
     }
 
     private static void bookIsFull() {
@@ -618,8 +640,11 @@ public final class PromiseTests {
         due("14 year 960", y.look(1), 960);
         due("14 beyond 999", y.years(40), -1);
         due("14 nothing is done", y.look(1), 960);
-        due("28 beyond 999", y.thought(30, 0, 0), 0);
-        due("14 to 999", y.years(39), 0);
+        y.years(10);
+        due("28 to 999", y.thought(29, 0, 0), 0);
+        due("28 beyond 999", y.thought(30, 0, 0), NO_NUMBER);
+        due("28 better beyond 999", y.thought(30, -1, 0), NO_NUMBER);
+        due("14 to 999", y.years(29), 0);
         due("14 is 999", y.look(1), 999);
         due("14 no more", y.years(1), -1);
         due("28 no more", y.thought(1, 0, 0), NO_NUMBER);
@@ -651,6 +676,10 @@ public final class PromiseTests {
         x.stick(0, 2, 5);
         x.years(1);
         due("14 never cut", x.of(0, 2), 5);
+        x.set(7, 1);
+        x.stick(0, 1, 0);
+        x.years(1);
+        due("14 cut at 1", x.of(0, 2), 0);
         // Who is out comes back into deals in the year behind.
         NotchSticks y = valley(2);
         y.set(8, 1);
@@ -669,6 +698,9 @@ public final class PromiseTests {
         due("15 patience downwards", x.plan(3, 0, 9, 333, 0), 3000 + 333 * 3999 / 1000);
         due("15 60 to come, breaking every other time", x.plan(60, 0, 1, 1000, 0), 30 * 8000);
         due("15 edge", x.plan(1, 1, 1, 0, 1), 1);
+        due("15 edge by what comes behind this one", x.plan(1, 1, 1, 1000, 1), 1);
+        due("15 edge with three to come", x.plan(3, 1, 1, 1000, 1), 2);
+        due("15 edge with half patience", x.plan(3, 1, 1, 500, 1), 1);
         due("15 edge not better is no edge", x.plan(2, 1, 1, 1000, 1), 2);
         due("15 edge of who can't", x.plan(5, 1, 2, 0, 1), -1);
         due("15 edge, k 0", x.plan(0, 1, 1, 0, 1), NO_WORTH);
@@ -679,6 +711,15 @@ public final class PromiseTests {
         due("15 24 at most", x.plan(3, 24, 1, 1000, 0), 15000);
         x.set(1, 3);
         due("15 breaking is never better", x.plan(1, 24, 1, 1000, 1), -1);
+        x.set(1, 4);
+        x.set(11, 0);
+        x.set(21, 1);
+        due("15 edge 12", x.plan(2, 1, 1, 1000, 1), 12);
+        x.set(21, 0);
+        x.set(22, 1);
+        due("15 no edge above 12", x.plan(2, 1, 1, 1000, 1), -1);
+        x.set(22, 0);
+        x.set(11, 1);
         x.set(1, 5);
         x.set(12, 2);
         due("15 over sizes", x.plan(1, 0, 1, 0, 0), 15000 / 3);
@@ -703,6 +744,9 @@ public final class PromiseTests {
         due("16 gain", x.longer(1, 1, 2, 1), 5000);
         due("16 never", x.longer(13, 1, 200, 0), 0);
         due("16 every tenth", x.longer(1, 9, 10, 0), 1000000000);
+        due("16 every third, kept", x.longer(1, 2, 5, 0), 0);
+        due("16 every third, broken", x.longer(1, 2, 6, 0), 1000000000);
+        due("16 24 at most", x.longer(13, 1, 60, 1), 3000);
         due("16 best edge is the least", x.longer(-1, 1, 1, 5), 1);
         x.set(11, 1);
         x.set(12, 1);
@@ -712,6 +756,8 @@ public final class PromiseTests {
         due("16 gain downwards", x.longer(3, 1, 2, 1), (3L * 999999999 + 333333334L * 15) / 1000000);
         x.set(1, 2);
         due("16 never breaking is best", x.longer(-1, 1, 2, 0), 4);
+        x.set(22, 1);
+        due("16 13 is best", x.longer(-1, 1, 2, 0), 13);
         due("16 t 0", x.longer(0, 1, 1, 0), -1);
         due("16 t 14", x.longer(14, 1, 1, 0), -1);
         due("16 t below", x.longer(-2, 1, 1, 0), -1);
@@ -738,6 +784,13 @@ public final class PromiseTests {
         due("17 best need is the least", x.common(13, -1, 2), 1);
         x.set(2, 99);
         due("17 may be negative", x.common(1, 1, 2), -94000);
+        NotchSticks y = new NotchSticks();
+        y.set(12, 1);
+        y.set(0, 0);
+        y.set(1, 0);
+        // Breaks alone count, and hurt: in round 9 nobody can have 9 yet; in round 19 some broke with each NEED.
+        due("17 9 is best", y.common(2, -1, 9), 9);
+        due("17 9 is best of what is negative", y.common(2, -1, 19), 9);
         x.set(11, 1);
         x.set(12, 1);
         x.set(13, 1);
@@ -769,6 +822,10 @@ public final class PromiseTests {
         due("18 8 at most", x.pair(2, 8, 0, 9, 1, 13, 0), 6000);
         due("18 8 at most, by need 8", x.pair(3, 8, 0, 8, 1, 13, 0), 5000 + 3000 + 3000);
         due("18 k 20", x.pair(20, 0, 0, 9, 1, 1, 0), 60000);
+        due("18 one more each time", x.pair(4, 0, 0, 3, 1, 13, 0), 9000 + 5000);
+        due("18 one more each time for the second", x.pair(4, 0, 0, 3, 13, 1, 1), 9000 + 5000);
+        due("18 and need less", x.pair(5, 3, 0, 3, 1, 13, 0), 5000 + 9000 + 5000);
+        due("18 and need less for the second", x.pair(5, 0, 3, 3, 13, 1, 1), 5000 + 9000 + 5000);
         x.set(12, 1);
         x.set(13, 1);
         // 333333333, 333333333, 333333334: what comes of each time goes downwards for itself.
@@ -805,6 +862,12 @@ public final class PromiseTests {
         due("19 one breaks", x.holds(1, 1, 1, 1, 0), 24);
         due("19 the first", x.holds(1, 1, 1, 1, 1), 22);
         due("19 the most", x.holds(1, 1, 1, 1, 2), 22);
+        x.set(11, 0);
+        x.set(22, 1);
+        due("19 one keeps by 13", x.holds(1, 1, 1, 1, 0), 24);
+        due("19 the first has u 13", x.holds(1, 1, 1, 1, 1), 33);
+        x.set(22, 0);
+        x.set(11, 1);
         // With HURT equal to BOTH and BREAK to KEEP all hold again, and keeping both has the most.
         x.set(3, 4);
         x.set(1, 3);
@@ -886,6 +949,9 @@ public final class PromiseTests {
         due("23 seldom noticed", x.rests(0, 1, 2), 1 + (1 << 2) + (1 << 6));
         x.set(5, 333);
         due("23 5000 less 1998", x.rests(0, 1, 1), 1 + (1 << 2) + (1 << 6));
+        x.set(4, 2);
+        x.set(5, 1000);
+        due("23 5000 less 2000 is not greater than 3000", x.rests(0, 1, 1), 1 + (1 << 2) + (1 << 4) + (1 << 6));
         x.set(4, 99);
         x.set(5, 1000);
         tell(x, 0, "may when age=20;");
@@ -952,7 +1018,9 @@ public final class PromiseTests {
         due("25 broke", x.trust(3, 1), 2);
         due("25 noticed", x.trust(3, 2), 1);
         due("25 nineties", x.trust(9, 0), 1);
+        due("25 nineties kept", x.trust(9, 1) + x.trust(9, 2), 0);
         due("25 decade 10", x.trust(10, 0), -1);
+        due("25 decade 0", x.trust(0, 0), 0);
         due("25 decade -1", x.trust(-1, 0), -1);
         due("25 what 3", x.trust(3, 3), -1);
         due("25 what -1", x.trust(3, -1), -1);
@@ -1017,6 +1085,11 @@ public final class PromiseTests {
         x.stick(0, 0, 0);
         x.state(99);
         x.set(8, 3);
+        x.stick(1, 2, 1);
+        x.lend(1, 0, 1, 70);
+        x.lend(0, 1, 1, 60);
+        x.deal(1, 0, 1);
+        x.image(true);
         due("28 purses", x.thought(2, 0, 0), 6);
         due("28 deals", x.thought(2, 0, 1), 6);
         due("28 breaks", x.thought(2, 0, 2), 6);
@@ -1037,9 +1110,9 @@ public final class PromiseTests {
         due("28 the other one is better", x.thought(1, -1, 0), 1);
         due("28 state stays", x.state(99), 99);
         due("28 year stays", x.look(1), 0);
-        due("28 book stays", x.look(2), 0);
+        due("28 book stays", x.look(2), 1);
         due("28 law stays", x.look(19), 0);
-        due("28 purse stays", x.of(0, 7), 0);
+        due("28 purse stays", x.of(0, 7), -5);
         due("28 age stays", x.of(0, 1), 20);
         due("28 n 0", x.thought(0, 0, 0), NO_NUMBER);
         due("28 n 31", x.thought(31, 0, 0), NO_NUMBER);
