@@ -178,11 +178,13 @@ public final class NotchSticks {
 
     public int text(int k) {
         reader.forget();
+        int length = taped;
+        // The tape is empty behind every text(), whatever it answers.
+        taped = 0;
         if (!isWithin(k, 0, TEXTS - 1)) {
             return NONE;
         }
-        Text made = reader.read(tape, taped, k < LAWS);
-        taped = 0;
+        Text made = reader.read(tape, length, k < LAWS);
         if (made == null) {
             return NONE;
         }
@@ -379,7 +381,8 @@ public final class NotchSticks {
     }
 
     public int thought(int n, int law, int what) {
-        if (!isWithin(n, 1, 30) || !isWithin(law, NONE, LAWS - 1) || now.year + n > MOST_YEAR) {
+        // Years in thought may go beyond the last year: nothing of them stays.
+        if (!isWithin(n, 1, 30) || !isWithin(law, NONE, LAWS - 1)) {
             return NO_NUMBER;
         }
         if (law == NONE) {

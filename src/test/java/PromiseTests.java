@@ -52,6 +52,7 @@ public final class PromiseTests {
         held();
         lend();
         thought();
+        thoughtBeyondTheLastYear();
         told();
         image();
         look();
@@ -224,7 +225,18 @@ public final class PromiseTests {
         due("8 no such one", x.text(6), -1);
         due("8 no such one below", x.text(-1), -1);
         due("8 no such one far", x.text(MIN), -1);
+        for (int k : new int[] {-1, 6, MIN, MAX}) {
+            feedText(x, "may when 1=1;");
+            due("8 no such one with a tape", x.text(k), -1);
+            due("8 the tape is empty behind no such one", x.end(1), false);
+            due("8 the tape begins anew", x.feed(0, 0, 0, 0, 0), 20);
+            x.end(0);
+        }
+        due("8 nothing was told", x.would(0, 1, 1, 2), 0);
         due("8 one line", tell(x, 0, "may when size<3;"), 1);
+        feedText(x, "may when");
+        x.text(6);
+        due("8 it stays with no such one", x.would(0, 1, 2, 2), 1);
         due("8 two lines", tell(x, 2, "deal when 1=1;\nbreak when 1=2;"), 2);
         due("8 sixteen lines", tell(x, 0, times(16, "may when size<4;")), 16);
         due("8 lawful by it", x.would(0, 1, 3, 2), 1);
@@ -642,12 +654,15 @@ public final class PromiseTests {
         due("14 nothing is done", y.look(1), 960);
         y.years(10);
         due("28 to 999", y.thought(29, 0, 0), 0);
-        due("28 beyond 999", y.thought(30, 0, 0), NO_NUMBER);
-        due("28 better beyond 999", y.thought(30, -1, 0), NO_NUMBER);
+        due("28 beyond 999", y.thought(30, 0, 0), 0);
+        due("28 better beyond 999", y.thought(30, -1, 0), 0);
+        due("28 beyond 999, another what", y.thought(30, 0, 4), NO_NUMBER);
         due("14 to 999", y.years(29), 0);
         due("14 is 999", y.look(1), 999);
         due("14 no more", y.years(1), -1);
-        due("28 no more", y.thought(1, 0, 0), NO_NUMBER);
+        due("28 more in thought", y.thought(1, 0, 0), 0);
+        due("28 years behind the last in thought", y.thought(30, 1, 1), 0);
+        due("28 the last year stays", y.look(1), 999);
     }
 
     private static void yearsCutAndOut() {
@@ -1121,6 +1136,33 @@ public final class PromiseTests {
         due("28 what 4", x.thought(1, 0, 4), NO_NUMBER);
         due("28 what -1", x.thought(1, 0, -1), NO_NUMBER);
         due("28 better, n 31", x.thought(31, -1, 0), NO_NUMBER);
+    }
+
+    /** Years in thought go on behind the last one: each is one more, and nothing of it stays. */
+    private static void thoughtBeyondTheLastYear() {
+        NotchSticks x = valley(2);
+        x.set(8, 0);
+        for (int i = 0; i < 16; i++) {
+            x.years(60);
+        }
+        x.years(39);
+        x.set(8, 2);
+        tell(x, 2, "deal when not year=999;break when year>1001;");
+        tell(x, 1, "may when year>1002;");
+        x.stick(0, 0, 0);
+        due("28 the last year alone", x.thought(1, 0, 1), 0);
+        due("28 a year behind it", x.thought(2, 0, 1), 2);
+        due("28 two years behind it", x.thought(3, 0, 0), 24);
+        due("28 no break yet", x.thought(3, 0, 2), 0);
+        due("28 a break in 1002", x.thought(4, 0, 2), 1);
+        due("28 breaks to 1004, not lawful", x.thought(6, 0, 3), 3);
+        due("28 breaks to 1004, by the other law", x.thought(6, 1, 2), 5);
+        due("28 not lawful by the other law", x.thought(6, 1, 3), 1);
+        due("28 better behind it", x.thought(6, -1, 0), 1);
+        due("28 of both 0 behind it", x.thought(4, -1, 0), 0);
+        due("28 year stays 999", x.look(1), 999);
+        due("28 book stays empty", x.look(2), 0);
+        due("14 no years behind it", x.years(1), -1);
     }
 
     private static void told() {

@@ -71,9 +71,22 @@ public final class SecondReckoning {
                     tellText(k, true);
                 }
             }
+            if (number % 5 == 4) {
+                goFar();
+            }
             while (told.size() < 480 && wrong - before < 3) {
                 one(random.nextInt(100));
             }
+        }
+
+        /** Nearly to the last YEAR, with the BOOK as it was. */
+        void goFar() {
+            due("set(8,0)", fast.set(8, 0) ? 1 : 0, slow.set(8, 0) ? 1 : 0);
+            for (int i = 0; i < 16; i++) {
+                due("years(60)", fast.years(60), slow.years(60));
+            }
+            due("years(25)", fast.years(25), slow.years(25));
+            due("set(8,3)", fast.set(8, 3) ? 1 : 0, slow.set(8, 3) ? 1 : 0);
         }
 
         void one(int kind) {
@@ -169,8 +182,8 @@ public final class SecondReckoning {
                     slow.texts[k] = tape;
                     want = read.lines;
                 }
-                tape = "";
             }
+            tape = "";
             due("text(" + k + ") of '" + shown + "'", fast.text(k), want);
             due("fault(0)", fast.fault(0), fault);
             due("fault(1)", fast.fault(1), place);
@@ -357,6 +370,9 @@ public final class SecondReckoning {
         String unit() {
             String[] names = {"kept", "broken", "large", "lost", "size", "age", "year",
                 "okept", "obroken", "olarge", "olost", "oage", "lawful", "olawful", "purse"};
+            if (random.nextInt(40) == 0) {
+                return "" + (985 + random.nextInt(30));
+            }
             if (random.nextInt(3) == 0) {
                 return random.nextInt(6) == 0 ? "" + random.nextInt(10000) : "" + random.nextInt(13);
             }
@@ -949,7 +965,7 @@ public final class SecondReckoning {
         }
 
         int thought(int n, int law, int what) {
-            if (n < 1 || n > 30 || law < -1 || law > 1 || year + n > 999 || law >= 0 && (what < 0 || what > 3)) {
+            if (n < 1 || n > 30 || law < -1 || law > 1 || law >= 0 && (what < 0 || what > 3)) {
                 return -10000000;
             }
             if (law == -1) {
@@ -957,7 +973,9 @@ public final class SecondReckoning {
             }
             Slow other = copy();
             other.set.put(9, law);
-            other.years(n);
+            for (int i = 0; i < n; i++) {
+                other.year();
+            }
             int[] all = new int[4];
             for (int who = 0; who < ones.size(); who++) {
                 all[0] += other.of(who, 7) - of(who, 7);
