@@ -95,7 +95,7 @@ public final class EdgeTests {
         due(call + " changes nothing", seen(x).equals(before), true);
     }
 
-    /** All that can be seen of a valley without changing it; of a long BOOK its first deals and its last one. */
+    /** What can be seen of a valley without changing it; of the BOOK its first deal and its last one. */
     private static String seen(NotchSticks x) {
         StringBuilder b = new StringBuilder();
         int state = x.state(0);
@@ -104,17 +104,17 @@ public final class EdgeTests {
         for (int what = 0; what < 33; what++) {
             b.append(' ').append(x.look(what));
         }
-        for (int who = 0; who < x.look(0); who++) {
+        int people = x.look(0);
+        for (int who = 0; who < people; who++) {
             for (int what = 0; what < 9; what++) {
                 b.append(' ').append(x.of(who, what));
             }
         }
-        for (int i = 0; i < Math.min(3, x.look(2)); i++) {
-            for (int what = 0; what < 8; what++) {
-                b.append(' ').append(x.book(i, what)).append(' ').append(x.book(x.look(2) - 1, what));
-            }
+        int deals = x.look(2);
+        for (int what = 0; what < 8; what++) {
+            b.append(' ').append(x.book(0, what)).append(' ').append(x.book(deals - 1, what));
         }
-        for (int size = 1; size <= 12; size++) {
+        for (int size = 1; size <= 12; size += 2) {
             b.append(' ').append(x.would(0, 1, size, 0)).append(x.would(0, 1, size, 1)).append(x.would(0, 1, size, 2));
         }
         return b.toString();
@@ -819,30 +819,31 @@ public final class EdgeTests {
 
     private static void dealComesToNothing() {
         says("It comes to nothing, if one is OUT (above 0) or does not DEAL.");
-        NotchSticks x = breaker();
-        x.set(5, 500);
         for (int who = 0; who < 2; who++) {
             for (int out : new int[] {1, 9}) {
+                NotchSticks x = breaker();
+                x.set(5, 500);
                 x.stick(who, 6, out);
                 String before = seen(x);
                 due("out " + out, x.deal(0, 1, 3), NONE);
                 same("a deal with who is out", x, before);
                 x.stick(who, 6, 0);
+                due("out no more", x.deal(0, 1, 3), 0);
             }
+            NotchSticks x = breaker();
+            x.set(5, 500);
+            tell(x, 5, "deal when size>3;");
+            x.stick(who, 0, 3);
+            String before = seen(x);
+            due("one does not deal", x.deal(0, 1, 3), NONE);
+            due("nor the other way round", x.deal(1, 0, 3), NONE);
+            same("a deal with who does not deal", x, before);
+            due("of size 4 he does", x.deal(0, 1, 4), 0);
         }
+        says("deal: NONE - 1, and nothing is done, if one can't be (the same)");
         NotchSticks y = breaker();
         y.set(5, 500);
-        tell(y, 5, "deal when size>3;");
-        for (int who = 0; who < 2; who++) {
-            y.stick(who, 0, 3);
-            String before = seen(y);
-            due("one does not deal", y.deal(0, 1, 3), NONE);
-            due("nor the other way round", y.deal(1, 0, 3), NONE);
-            same("a deal with who does not deal", y, before);
-            y.stick(who, 0, who == 0 ? 0 : 4);
-        }
-        due("both deal", y.deal(0, 1, 3), 0);
-        says("deal: NONE - 1, and nothing is done, if one can't be (the same)");
+        due("one that can be", y.deal(0, 1, 3), 0);
         String before = seen(y);
         int[][] refused = {{0, 0, 1}, {1, 1, 1}, {0, 2, 1}, {2, 0, 1}, {-1, 0, 1}, {0, -1, 1}, {0, 1, 0}, {0, 1, 13},
             {0, 1, -1}, {0, 1, MIN}, {0, 1, MAX}, {MIN, 1, 1}, {0, MAX, 1}, {2, 2, 1}};
@@ -1212,12 +1213,14 @@ public final class EdgeTests {
         due("years(60)", x.years(60), 0);
         due("sixty more", x.look(1), 61);
         says("years: NONE, and nothing is done, beyond YEAR 999; YEAR 999 at most");
-        for (int i = 0; i < 15; i++) {
+        x = valley(2);
+        x.set(8, 0);
+        for (int i = 0; i < 16; i++) {
             x.years(60);
         }
+        x.years(1);
         due("961", x.look(1), 961);
         x.set(8, 1);
-        x.stick(0, 0, 4);
         before = seen(x);
         due("39 to 1000", x.years(39), NONE);
         due("60 beyond it", x.years(60), NONE);
@@ -1478,6 +1481,10 @@ public final class EdgeTests {
         due("all keep in round 1", x.common(3, -1, 1), 1);
         due("all keep with t 13", x.common(13, -1, 2), 1);
         NotchSticks y = new NotchSticks();
+        y.set(2, 0);
+        due("6000 is greater than 5000", y.common(1, -1, 2), 2);
+        y.set(2, 99);
+        due("6000 is greater than -94000", y.common(1, -1, 2), 2);
         y.set(2, 0);
         y.set(0, 0);
         // Breaks alone count: with NEED n all break in each round that n + 1 parts.
@@ -1957,6 +1964,7 @@ public final class EdgeTests {
         due("purse from", x.of(0, 7), 10001);
         due("purse to", x.of(1, 7), -10001);
         says("lend: false (not as many)");
+        x = valley(2);
         x.stick(0, 2, 5);
         before = seen(x);
         due("six of five", x.lend(0, 1, 6, 1), false);
@@ -1965,6 +1973,7 @@ public final class EdgeTests {
         due("none is left", x.of(0, 2), 0);
         due("one of none", x.lend(0, 1, 1, 1), false);
         says("lend: false (the other one would have more than 9999)");
+        x = valley(2);
         x.stick(0, 2, 99);
         x.stick(1, 2, 9995);
         before = seen(x);
@@ -2164,6 +2173,10 @@ public final class EdgeTests {
         due("gone back", x.image(false), true);
         same("gone back at once", x, before);
         says("THE IMAGE: all that is and was told; gone back to it may be more than once");
+        x = marked(lawfulBreaker());
+        x.deal(0, 1, 3);
+        x.image(true);
+        before = seen(x);
         for (int again = 0; again < 2; again++) {
             x.stick(0, 0, 3);
             x.deal(1, 0, 9);
@@ -2314,6 +2327,7 @@ public final class EdgeTests {
             due("is not so of another", x.would(0, 1, size % 12 + 1, 2), 0);
         }
         says("text: NONE: no such one (fault() tells 0)");
+        x = valley(2);
         tell(x, 0, "may when size=3;");
         tell(x, 2, "break when size=3;");
         x.stick(0, 0, 0);

@@ -57,6 +57,9 @@ public final class SecondReckoning {
                 int[] odd = {least - 1, most + 1, -1, Integer.MIN_VALUE, Integer.MAX_VALUE, most + 10};
                 return odd[random.nextInt(odd.length)];
             }
+            if (random.nextInt(10) == 0) {
+                return random.nextBoolean() ? least : most;
+            }
             return least + random.nextInt(most - least + 1);
         }
 
@@ -131,6 +134,9 @@ public final class SecondReckoning {
             int v = what > 10 && random.nextInt(2) == 0 ? 0 : within(0, m);
             if (what == 5 && random.nextInt(2) == 0) {
                 v = 1000;
+            }
+            if (what < 5 && random.nextInt(3) == 0) {
+                v = random.nextInt(4);
             }
             due("set(" + what + "," + v + ")", fast.set(what, v) ? 1 : 0, slow.set(what, v) ? 1 : 0);
         }
