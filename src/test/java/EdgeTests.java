@@ -49,6 +49,7 @@ public final class EdgeTests {
         commonEdges();
         pairEdges();
         holdsEdges();
+        holdsWithoutOne();
         restsEdges();
         whomEdges();
         safeAndNames();
@@ -1605,6 +1606,52 @@ public final class EdgeTests {
         weights(x);
         due("no weights", x.holds(1, 0, 0, 1, 0), NONE);
         due("no weights, the first", x.holds(1, 0, 0, 1, 1), NONE);
+    }
+
+    /**
+     * Where breaking brings as much as keeping, whatever the other one does, GAINS by one's own sizes differ by what
+     * goes downwards alone: there they may go around so that no couple holds.
+     */
+    private static void holdsWithoutOne() {
+        says("holds: NONE without one (1, 2)");
+        NotchSticks x = breakingAsGoodAsKeeping();
+        for (int[] surpluses : new int[][] {{6, 0}, {0, 6}}) {
+            int a = surpluses[0];
+            int b = surpluses[1];
+            due("from " + a + ", " + b + ": 0, not NONE", x.holds(20, a, b, 4, 0), 0);
+            due("from " + a + ", " + b + ": no first", x.holds(20, a, b, 4, 1), NONE);
+            due("from " + a + ", " + b + ": none with the most", x.holds(20, a, b, 4, 2), NONE);
+        }
+        due("once, all hold", x.holds(1, 6, 0, 4, 0), 169);
+        due("once, the first", x.holds(1, 6, 0, 4, 1), 21);
+        long[][] first = new long[14][14];
+        long[][] second = new long[14][14];
+        NotchSticks y = breakingAsGoodAsKeeping();
+        for (int t = 1; t <= 13; t++) {
+            for (int u = 1; u <= 13; u++) {
+                first[t][u] = y.pair(20, 6, 0, 4, t, u, 0);
+                second[t][u] = y.pair(20, 6, 0, 4, t, u, 1);
+            }
+        }
+        for (int t = 1; t <= 13; t++) {
+            for (int u = 1; u <= 13; u++) {
+                boolean holds = true;
+                for (int other = 1; other <= 13; other++) {
+                    holds &= first[other][u] <= first[t][u] && second[t][other] <= second[t][u];
+                }
+                due("by pair() too, with " + t + ", " + u + " somebody would do otherwise", holds, false);
+            }
+        }
+    }
+
+    private static NotchSticks breakingAsGoodAsKeeping() {
+        NotchSticks x = new NotchSticks();
+        weights(x, 1, 1, 2, 18, 3, 54, 4, 63, 5, 25, 8, 39, 9, 65, 10, 40, 11, 65, 12, 9);
+        int[] worths = {92, 92, 60, 60};
+        for (int what = 0; what < worths.length; what++) {
+            x.set(what, worths[what]);
+        }
+        return x;
     }
 
     private static void restsEdges() {

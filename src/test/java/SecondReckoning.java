@@ -77,6 +77,9 @@ public final class SecondReckoning {
             if (number % 5 == 4) {
                 goFar();
             }
+            if (number % 8 == 7) {
+                breakAsWellAsKeep();
+            }
             while (told.size() < 480 && wrong - before < 3) {
                 one(random.nextInt(100));
             }
@@ -90,6 +93,29 @@ public final class SecondReckoning {
             }
             due("years(25)", fast.years(25), slow.years(25));
             due("set(8,3)", fast.set(8, 3) ? 1 : 0, slow.set(8, 3) ? 1 : 0);
+        }
+
+        /** Where one's own breaks bring no more and no less, PAIRS differ by what goes downwards alone. */
+        void breakAsWellAsKeep() {
+            int[] told = new int[23];
+            told[0] = told[1] = 60 + random.nextInt(40);
+            told[2] = told[3] = random.nextInt(100);
+            for (int size = 1; size <= 12; size++) {
+                told[10 + size] = random.nextInt(5) == 0 ? 0 : random.nextInt(100);
+            }
+            for (int what = 0; what < 23; what++) {
+                if (what < 4 || what > 10) {
+                    due("set(" + what + "," + told[what] + ")", fast.set(what, told[what]) ? 1 : 0, slow.set(what, told[what]) ? 1 : 0);
+                }
+            }
+            int k = 10 + random.nextInt(11), a = random.nextInt(9), b = random.nextInt(9), need = 2 + random.nextInt(4);
+            for (int what = 0; what < 3; what++) {
+                due("holds(" + k + "," + a + "," + b + "," + need + "," + what + ")", fast.holds(k, a, b, need, what), slow.holds(k, a, b, need, what));
+            }
+            for (int i = 0; i < 20; i++) {
+                int t = 1 + random.nextInt(13), u = 1 + random.nextInt(13), what = random.nextInt(2);
+                due("pair(" + k + "," + a + "," + b + "," + need + "," + t + "," + u + "," + what + ")", fast.pair(k, a, b, need, t, u, what), slow.pair(k, a, b, need, t, u, what));
+            }
         }
 
         void one(int kind) {
